@@ -164,6 +164,8 @@ final class OutHomeTest {
                 c.due("stage " + stage + " what " + what, x.about(0, what), due[stage][what]);
                 c.due("the other", x.about(1, what), due[0][what]);
             }
+            c.due("stage " + stage + " what -1", x.about(0, -1), GownLet.BAD);
+            c.due("stage " + stage + " what 5", x.about(0, 5), GownLet.BAD);
             if (stage == 0) {
                 x.out(0, 2);
             } else {

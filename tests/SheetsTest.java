@@ -79,10 +79,22 @@ final class SheetsTest {
         fill(z, 0, 2, 0, 10, 0, 100, 0, 0, -1);
         z.sheet(0, 2, 6);
         c.due("a new row holds nothing of the old", z.books(0, 2, 0, 1), GownLet.NOT);
-        fill(z, 0, 2, 0, 10, 0, 100, 0, 0, -1);
+        fill(z, 0, 2, 1, 0, 100, 0, 0, -1);
+        c.due("nor in its first item", z.books(0, 2, 0, 1), GownLet.NOT);
+        fill(z, 0, 2, 0, 10, 0, 100);
+        z.item(0, 2, 5, 0);
         c.due("the other sheets are others", z.books(1, 2, 0, 1), GownLet.NULL);
         c.due("a refused row leaves the old", z.sheet(0, 2, -1), GownLet.SIZE);
         c.due("so it stands", z.books(0, 2, 0, 1), 1);
+        z.sheet(0, 2, 6);
+        fill(z, 0, 2, 0, 10);
+        z.item(0, 2, 2, 100);
+        c.due("a new row's items are 0", z.books(0, 2, 0, 1), 2);
+        z.gown(0, 10, 0, 0, 100, 9);
+        c.due("0 wants a gown", z.give(1), 0);
+        c.due("0 is town 0", z.away(0, 1, 0), 99);
+        c.due("0 is day 0", z.asOf(0, 0, 0, 0), 2);
+        c.due("0 is party 0", z.match(0, 2), 2);
     }
 
     private static void books(Check c) {
@@ -90,7 +102,7 @@ final class SheetsTest {
         x.gown(0, 10, 4, 3, 100, 9);
         x.suit(0, 12, 4, 3, 100, 9);
         x.sheet(2, 1, 13);
-        fill(x, 2, 1, 1, 10, 0, 100, 3, 5, 2, 12, 2, 300, 4, 9, 2);
+        fill(x, 2, 1, 1, 10, 0, 100, 3, 5, 3, 12, 2, 300, 4, 9, 3);
         c.due("from item 1", x.books(2, 1, 1, 2), 2);
         c.due("size and wants", x.give(0), 0);
         c.due("of the second", x.give(1), 1);
@@ -98,7 +110,7 @@ final class SheetsTest {
         c.due("town", x.away(1, 1, 1), 303);
         c.due("made", x.asOf(5, 0, 0, 0), 1);
         c.due("made, the second", x.asOf(9, 0, 0, 0), 2);
-        c.due("party", x.match(2, 2), 2);
+        c.due("party", x.match(3, 2), 2);
         c.due("none", x.books(2, 1, 1, 0), 2);
         c.due("from the second alone", x.books(2, 1, 7, 1), 3);
         c.due("it is the second", x.asOf(9, 1, 300, 300), 2);

@@ -42,7 +42,9 @@ final class TermsTest {
     private static void type(Check c) {
         GownLet x = new GownLet();
         c.due("type n 0", x.type('h', 0), GownLet.BAD);
-        c.due("type n 9", x.type('h', 9), GownLet.BAD);
+        c.due("type n 9", x.type(Check.packed("hhhhhhhh"), 9), GownLet.BAD);
+        c.due("type n MAX", x.type(Check.packed("hhhhhhhh"), Integer.MAX_VALUE), GownLet.BAD);
+        c.due("type n MIN", x.type(Check.packed("hhhhhhhh"), Integer.MIN_VALUE), GownLet.BAD);
         c.due("type n -1", x.type('h', -1), GownLet.BAD);
         c.due("type 31", x.type(31, 1), GownLet.BAD);
         c.due("type 127", x.type(127, 1), GownLet.BAD);
