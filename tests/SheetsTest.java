@@ -135,6 +135,9 @@ final class SheetsTest {
         c.due("INDEX ahead of NOT", x.books(0, 2, 1, 2), GownLet.INDEX);
         c.due("from MAX", x.books(0, 2, Integer.MAX_VALUE, 6), GownLet.INDEX);
         c.due("from MIN", x.books(0, 2, Integer.MIN_VALUE, 6), GownLet.INDEX);
+        c.due("none from -1", x.books(0, 2, -1, 0), GownLet.INDEX);
+        c.due("none from 13", x.books(0, 2, 13, 0), GownLet.INDEX);
+        c.due("none from 12", x.books(0, 2, 12, 0), 0);
         c.due("zeros are not as told", x.books(0, 2, 0, 1), GownLet.NOT);
         int[] least = {1, 0, 20, 0, 0, -1};
         int[] most = {40, 2, 380, 8, 399, 4};
