@@ -220,7 +220,10 @@ final class BookingsTest {
             c.due("booking at " + i, x.link(booking, i, 0), due[2 * i]);
             c.due("piece at " + i, x.link(booking, i, 1), due[2 * i + 1]);
         }
-        c.due("behind the chain", x.link(booking, due.length / 2, 0), GownLet.NONE);
+        for (int what = 0; what <= 1; what++) {
+            c.due("behind the chain", x.link(booking, due.length / 2, what), GownLet.BAD);
+            c.due("far behind the chain", x.link(booking, Integer.MAX_VALUE, what), GownLet.BAD);
+        }
     }
 
     private static void chainOfOne(Check c) {
@@ -235,7 +238,6 @@ final class BookingsTest {
         c.due("link i -1", x.link(0, -1, 0), GownLet.BAD);
         c.due("link what -1", x.link(0, 0, -1), GownLet.BAD);
         c.due("link what 2", x.link(0, 0, 2), GownLet.BAD);
-        c.due("link far behind", x.link(0, Integer.MAX_VALUE, 0), GownLet.NONE);
         links(c, x, 0, new int[] {0, 0});
         c.due("nothing is given by chain", x.has(0), GownLet.NONE);
         c.due("the least piece, not the nearest", x.swap(0), 1);
@@ -243,6 +245,7 @@ final class BookingsTest {
         c.due("chain with a piece", x.chain(0), GownLet.NOT);
         c.due("swap with a piece", x.swap(0), GownLet.NOT);
         c.due("link with a piece", x.link(0, 0, 0), GownLet.NOT);
+        c.due("link far with a piece", x.link(0, Integer.MAX_VALUE, 1), GownLet.NOT);
         c.due("link BAD ahead of NOT", x.link(0, 0, 2), GownLet.BAD);
     }
 
@@ -264,6 +267,9 @@ final class BookingsTest {
         c.due("no chain", x.chain(2), GownLet.NONE);
         c.due("no swap", x.swap(2), GownLet.NONE);
         c.due("no link", x.link(2, 0, 0), GownLet.NONE);
+        c.due("no link at any place", x.link(2, 1, 1), GownLet.NONE);
+        c.due("no link at a place no chain has", x.link(2, 4, 0), GownLet.NONE);
+        c.due("nor far", x.link(2, Integer.MAX_VALUE, 0), GownLet.NONE);
         c.due("BAD ahead of NONE", x.link(2, -1, 0), GownLet.BAD);
     }
 
@@ -371,6 +377,7 @@ final class BookingsTest {
         c.due("it is called off", s.chain(1), GownLet.NOT);
         c.due("swap of one called off", s.swap(1), GownLet.NOT);
         c.due("link of one called off", s.link(1, 0, 0), GownLet.NOT);
+        c.due("link far of one called off", s.link(1, 4, 0), GownLet.NOT);
         c.due("link i -1 of one called off", s.link(1, -1, 0), GownLet.BAD);
     }
 

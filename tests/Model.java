@@ -344,7 +344,7 @@ final class Model {
         if (i < 0 || !in(what, 0, 1)) return -1;
         int length = chain(n);
         if (length < 0) return length;
-        if (i >= length) return -4;
+        if (i >= length) return -1;
         return what == 0 ? best.get(i).booking.number : best.get(i).piece.number;
     }
 

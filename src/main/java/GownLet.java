@@ -232,8 +232,9 @@ public final class GownLet {
         if (length < 0) {
             return length;
         }
+        // Only a CHAIN that is there can tell how far its places go, so this stands behind NOT and NONE.
         if (i >= length) {
-            return NONE;
+            return BAD;
         }
         return what == 0 ? chain.bookingIn(i) : chain.pieceIn(i);
     }
@@ -650,11 +651,11 @@ public final class GownLet {
         }
 
         int low(int maker) {
-            return isMaker(maker) ? lows[maker] : 0;
+            return maker >= 0 && maker < MAKERS ? lows[maker] : 0;
         }
 
         int high(int maker) {
-            return isMaker(maker) ? highs[maker] : 0;
+            return maker >= 0 && maker < MAKERS ? highs[maker] : 0;
         }
 
         private int spanOf(int a, int b) {
@@ -1139,11 +1140,11 @@ public final class GownLet {
         }
 
         int bookingIn(int place) {
-            return place >= 0 && place < length && place < MOST_PLACES ? takers[place] : NONE;
+            return place >= 0 && place < length && place < MOST_PLACES ? takers[place] : BAD;
         }
 
         int pieceIn(int place) {
-            return place >= 0 && place < length && place < MOST_PLACES ? taken[place] : NONE;
+            return place >= 0 && place < length && place < MOST_PLACES ? taken[place] : BAD;
         }
 
         /** Searches the shortest CHAIN, of like ones the first: how many BOOKINGS are in it; NONE. */
