@@ -2,14 +2,47 @@
 final class Check {
     private int calls;
     private int wrong;
+    private int sentences;
+    private String sentence = "";
+    private int callsBefore;
+
+    /** The sentence of the document that the answers from here on are looked at for. */
+    void says(Section section, String words) {
+        endSentence();
+        sentence = section.name + " \"" + words + "\": ";
+        sentences++;
+        if (!section.says(words)) {
+            wrong("does not stand in the document");
+        }
+        callsBefore = calls;
+    }
+
+    /** Each sentence of the section had its test. */
+    void allSaid(Section section) {
+        endSentence();
+        if (!section.unsaid().isEmpty()) {
+            wrong(section.name + " has no test for: " + section.unsaid());
+        }
+    }
+
+    private void endSentence() {
+        if (!sentence.isEmpty() && calls == callsBefore) {
+            wrong("no answer was looked at");
+        }
+        sentence = "";
+    }
 
     void due(String call, long got, long want) {
         calls++;
         if (got != want) {
-            wrong++;
-            if (wrong <= 50) {
-                System.out.println(call + " answered " + got + ", due is " + want);
-            }
+            wrong(call + " answered " + got + ", due is " + want);
+        }
+    }
+
+    private void wrong(String what) {
+        wrong++;
+        if (wrong <= 50) {
+            System.out.println(sentence + what);
         }
     }
 
@@ -22,7 +55,9 @@ final class Check {
     }
 
     void end() {
-        System.out.println(calls + " answers looked at, " + wrong + " not as due");
+        endSentence();
+        String of = sentences == 0 ? "" : " for " + sentences + " sentences";
+        System.out.println(calls + " answers looked at" + of + ", " + wrong + " not as due");
         if (wrong != 0) {
             System.exit(1);
         }
