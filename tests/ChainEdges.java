@@ -372,6 +372,8 @@ final class ChainEdges {
         due(c, "one", w, 0, 1, 1);
         c.due("none has one", w.count(6), 0);
         c.due("it can be given", w.give(0), 0);
+        due(c, "one", w, 0, 1, 1);
+        c.due("nor is it taken by it", w.has(0), 0);
     }
 
     private static void chain(Check c) {

@@ -230,12 +230,16 @@ final class RefusalsTest {
             c.due("call " + call, x.post(0, 1, call % 10), call == 2 ? 1 : (call - 1) % 10);
         }
         c.due("call 512", x.post(1, 0, 0), 1);
-        GownLet y = Scenes.shop();
-        for (int call = 110; call <= 511; call += 3) {
-            c.due("chain", y.chain(Scenes.CHAINED), 2);
-            c.due("link", y.link(Scenes.CHAINED, 1, 1), Scenes.ABOVE);
-            c.due("match", y.match(1, 1), 1);
+        GownLet y = new GownLet();
+        y.gown(0, 10, 3, 0, 100, 9);
+        y.gown(0, 12, 3, 0, 100, 9);
+        y.book(11, 0, 100, 0, 0, 2);
+        y.give(0);
+        y.book(9, 0, 100, 0, 0, 2);
+        for (int call = 6; call <= 511; call += 2) {
+            c.due("call " + call, y.link(1, 1, 1), 1);
+            c.due("call " + (call + 1), y.match(2, 1), 1);
         }
-        c.due("the last", y.swap(Scenes.CHAINED), 2);
+        c.due("call 512", y.swap(1), 2);
     }
 }

@@ -82,12 +82,18 @@ final class SheetsEdgesTest {
         c.due("PARTY 0", x.match(0, 2), 4);
         c.due("a row of none", x.sheet(Scenes.SHORTS, 0, 0), 0);
         c.due("a row of 36", x.sheet(Scenes.SHORTS, 0, 36), 36);
-        GownLet again = new GownLet();
-        again.sheet(0, 2, 36);
-        Scenes.fill(again, 0, 2, 30, 10, 0, 100, 0, 0, -1);
-        again.sheet(0, 2, 6);
-        again.sheet(0, 2, 36);
-        c.due("nothing of the old row", again.books(0, 2, 30, 1), NOT);
+        for (int at = 0; at < 36; at++) {
+            boolean isToldBy0 = at % 6 != 0 && at % 6 != 2;
+            GownLet y = row(2, 10, -5, 100, -5, -5, -5, 10, -5, 100, -5, -5, -5, 10, -5, 100, -5, -5, -5,
+                    10, -5, 100, -5, -5, -5, 10, -5, 100, -5, -5, -5, 10, -5, 100, -5, -5, -5);
+            y.sheet(0, 2, 36);
+            for (int i = 0; i < 36; i++) {
+                if (i != at) {
+                    y.item(0, 2, i, repeated(6)[i]);
+                }
+            }
+            c.due("nothing of the old row at " + at, y.books(0, 2, 0, 6), isToldBy0 ? 6 : NOT);
+        }
         c.says(s, "BAD");
         Refusal.bounds(c, "sheet", Scenes::shop, BAD, new int[] {1, 1}, new int[][] {{0, 3}, {0, 2}}, (y, n) -> y.sheet(n[0], n[1], 6));
         c.says(s, ": also n above 36");
